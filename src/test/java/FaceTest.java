@@ -1,10 +1,44 @@
+import java.lang.reflect.Constructor;
 import java.lang.reflect.Field;
 import java.lang.reflect.Method;
 import java.lang.reflect.Modifier;
+import java.util.List;
 import java.util.TreeSet;
 
 /** The public face and promise 1. */
 public final class FaceTest {
+    /** As the document has it, but for the names of the arguments and the constants' values. */
+    private static final String[] FACE = {
+        "public static final int NONE",
+        "public static final int EMPTY",
+        "public static final int GROUP",
+        "public static final int REPEAT",
+        "public static final int BRACES",
+        "public static final int BRACKET",
+        "public static final int COLLATING",
+        "public static final int ESCAPE",
+        "public static final int DEPTH",
+        "public static final int SIZE",
+        "public TrigramLines()",
+        "public boolean write(char)",
+        "public int put(int)",
+        "public boolean drop(int)",
+        "public int length(int)",
+        "public boolean type(char)",
+        "public int back()",
+        "public int fault()",
+        "public int size()",
+        "public int strings()",
+        "public int search()",
+        "public int possible()",
+        "public int hit(int)",
+        "public int shards()",
+        "public int shard(int,int)",
+        "public int postings(int,int,int)",
+        "public int compact()",
+        "public int left()",
+    };
+
     public static void main(String[] args) {
         members();
         constants();
@@ -18,22 +52,19 @@ public final class FaceTest {
         TreeSet<String> seen = new TreeSet<>();
         for (Method m : TrigramLines.class.getDeclaredMethods()) {
             if (!Modifier.isPrivate(m.getModifiers()) && !m.isSynthetic()) {
-                Due.is("public " + m, Modifier.isPublic(m.getModifiers()), true);
-                seen.add(m.getName());
+                seen.add(m.toString().replace("TrigramLines.", ""));
             }
         }
         for (Field f : TrigramLines.class.getDeclaredFields()) {
             if (!Modifier.isPrivate(f.getModifiers())) {
-                boolean constant = Modifier.isStatic(f.getModifiers()) && Modifier.isFinal(f.getModifiers());
-                Due.is("constant " + f, constant, true);
-                seen.add(f.getName());
+                seen.add(f.toString().replace("TrigramLines.", ""));
             }
         }
-        Due.is("members", seen.toString(), "[BRACES, BRACKET, COLLATING, DEPTH, EMPTY, ESCAPE, GROUP, NONE, "
-                + "REPEAT, SIZE, back, compact, drop, fault, hit, left, length, possible, postings, put, search, "
-                + "shard, shards, size, strings, type, write]");
-        Due.is("public constructors", TrigramLines.class.getConstructors().length, 1);
-        Due.is("final", Modifier.isFinal(TrigramLines.class.getModifiers()), true);
+        for (Constructor<?> c : TrigramLines.class.getDeclaredConstructors()) {
+            seen.add(c.toString());
+        }
+        Due.is("members", seen.toString(), new TreeSet<>(List.of(FACE)).toString());
+        Due.is("class", Modifier.toString(TrigramLines.class.getModifiers()), "public final");
     }
 
     private static void constants() {

@@ -15,6 +15,7 @@ public final class SetsTest {
         ranges();
         rangeEnds();
         hyphens();
+        everyRangeEnd();
         openingBrackets();
         emptyAndFull();
         newline();
@@ -37,6 +38,11 @@ public final class SetsTest {
             }
         }
         return rest.toString();
+    }
+
+    /** Each of the characters once, as the hits of a search come. */
+    private static String inOrder(String some) {
+        return without(without(some));
     }
 
     /** Each character 32 .. 126 on a line of its own, 20 lines under a name. */
@@ -176,6 +182,23 @@ public final class SetsTest {
         Tested x = new Tested().text(0, "--z]").text(1, "m");
         Due.is("hits of [a-]-z]", x.search("[a-]-z]"), 1);
         Due.is("its span", x.hits(), "0/0/0-4");
+    }
+
+    private static void everyRangeEnd() {
+        Due.sentence("a character y other than ]: no other one is left out, and what stands behind y is no part of "
+                + "the item");
+        for (int x : new int[] {' ', 'A', '['}) {
+            for (int y = x; y <= 126; y++) {
+                String item = (char) x + "-" + (char) y;
+                if (y == ']') {
+                    dueMembers("[" + item, inOrder("-" + (char) x));
+                } else {
+                    dueMembers("[" + item + "]", printed(x, y));
+                    dueMembers("[" + item + ":]", inOrder(printed(x, y) + ":"));
+                    dueMembers("[" + item + ".]", inOrder(printed(x, y) + "."));
+                }
+            }
+        }
     }
 
     private static void openingBrackets() {
